@@ -550,22 +550,30 @@ public final class ShowRights {
             return least;
         }
 
-        /** LANDS, as bits, in which a HOLD would not be KEPT, were just a set SIGNED. */
-        int brokenLands(int set, Hold hold) {
-            int lands = 0;
-            for (int land = 0; land < LANDS; land++) {
-                int later = beginOf(set, land, hold.later);
-                int earlier = later == NONE ? NONE : beginOf(set, land, hold.earlier);
-                if (earlier != NONE && later - earlier < hold.weeks) lands |= 1 << land;
-            }
-            return lands;
+        /** KEPT, were just a set SIGNED. */
+        private boolean isKept(int set, Hold hold, int land) {
+            int later = beginOf(set, land, hold.later);
+            if (later == NONE) return true;
+            int earlier = beginOf(set, land, hold.earlier);
+            return earlier == NONE || later - earlier >= hold.weeks;
         }
 
         boolean areHoldsKept(int set) {
             for (int h = 0; h < holdCount; h++) {
-                if (brokenLands(set, holds[h]) != 0) return false;
+                for (int land = 0; land < LANDS; land++) {
+                    if (!isKept(set, holds[h], land)) return false;
+                }
             }
             return true;
+        }
+
+        /** LANDS, as bits. */
+        int brokenLands(int set, Hold hold) {
+            int lands = 0;
+            for (int land = 0; land < LANDS; land++) {
+                if (!isKept(set, hold, land)) lands |= 1 << land;
+            }
+            return lands;
         }
 
         int priceOf(int set) {

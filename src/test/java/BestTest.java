@@ -19,6 +19,7 @@ public final class BestTest {
 
     private static void best() {
         bestIs(new ShowRights(), "at first", 70, 5);
+        bestIs(Due.laid("o1,1,1,0,0,0,1;", 1), "the least PRICE", 1, 1);
         bestIs(Due.laid("o1,1,1,0,9,1,10;o1,1,1,5,20,0,6;o1,1,1,15,30,1,10;o1,1,1,0,30,0,16;", 4), "two against one", 22, 10);
         bestIs(Due.laid("o1,1,1,0,9,1,10;o1,1,1,5,20,0,6;o1,1,1,15,30,1,10;o1,1,1,0,30,0,11;", 4), "two against two", 20, 5);
         bestIs(Due.laid("t5,9;o1,1,1,4,9,0,50;o1,1,1,5,9,0,3;o1,1,1,9,10,0,60;", 3), "within the TERM", 3, 2);

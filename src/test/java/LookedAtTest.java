@@ -14,6 +14,7 @@ public final class LookedAtTest {
         longest();
         longestFirst();
         longestNone();
+        asManyAsCanBe();
         Due.end();
     }
 
@@ -76,6 +77,10 @@ public final class LookedAtTest {
         x.move(1, 4);
         x.sign(1);
         Due.is("15: begin(0, 0), MOVED", x.begin(0, 0), 9);
+        x.drop(1);
+        x.move(1, 9);
+        x.sign(1);
+        Due.is("15: begin(0, 0), MOVED behind the other", x.begin(0, 0), 10);
         Due.is("15: begin(6, 0)", x.begin(6, 0), Due.BAD);
         Due.is("15: begin(0, 4)", x.begin(0, 4), Due.BAD);
         for (int i : Due.WILD) {
@@ -165,6 +170,11 @@ public final class LookedAtTest {
         ShowRights all = Due.laid("o63,15,15,0,51,1,1;", 1);
         all.sign(0);
         pointsAre(all, "all sold", 4992, 4992, 0, 4992, 0);
+        ShowRights beside = Due.laid("o63,15,15,0,51,0,1;o63,15,15,0,51,0,1;", 2);
+        beside.sign(0);
+        pointsAre(beside, "all sold beside others", 4992, 4992, 0, 0, 0);
+        beside.sign(1);
+        pointsAre(beside, "all sold twice", 4992, 4992, 4992, 0, 0);
         ShowRights one = Due.laid("t51,51;o63,15,15,51,51,0,1;o32,8,8,51,51,0,1;", 2);
         pointsAre(one, "one WEEK", 96, 0, 0, 0, 96);
         one.sign(0);
@@ -284,5 +294,34 @@ public final class LookedAtTest {
         x.drop(0);
         x.sign(1);
         longestIs(x, "one WEEK", 1, 0, 0, 0, 9);
+        ShowRights y = Due.laid("o63,15,15,0,50,0,1;", 1);
+        y.sign(0);
+        longestIs(y, "the last WEEK", 1, 0, 0, 0, 51);
+    }
+
+    /** Ten OFFERS and four HOLDS: nothing may be looked for behind the last of them. */
+    private static void asManyAsCanBe() {
+        ShowRights x = Due.laid("o32,8,8,9,9,0,3;".repeat(9) + "o32,8,8,9,9,0,4;" + "h3,2,1;".repeat(3) + "h3,2,2;", 10);
+        for (int i = 0; i < 10; i++) {
+            Due.is("7: why(" + i + ")", x.why(i), 0);
+            Due.is("6: sign(" + i + ")", x.sign(i), i + 1);
+        }
+        Due.is("8: clash(9)", x.clash(9), Due.NONE);
+        Due.is("14: common(8, 9)", x.common(8, 9), 1);
+        Due.is("15: begin(5, 3)", x.begin(5, 3), 9);
+        Due.is("16: broken(3)", x.broken(3), 0);
+        Due.is("16: broken(4)", x.broken(4), Due.BAD);
+        Due.is("17: point(5, 3, 3, 9, 0)", x.point(5, 3, 3, 9, 0), 10);
+        Due.is("17: point(5, 3, 3, 9, 1)", x.point(5, 3, 3, 9, 1), 0);
+        pointsAre(x, "ten SIGNED", 4992, 1, 1, 0, 4991);
+        windowIs(x, new int[] {5, 3, 3}, 1, 10, 51);
+        longestIs(x, "ten SIGNED", 52, 0, 0, 0, 0);
+        Due.is("23: count(5)", x.count(5), 31);
+        Due.is("23: count(6)", x.count(6), 0);
+        Due.is("21: best(1)", x.best(1), 1023);
+        Due.is("9: drop(9)", x.drop(9), 9);
+        Due.is("10: move(9, 42)", x.move(9, 42), 0);
+        Due.is("11: soonest(9)", x.soonest(9), 42);
+        Due.is("13: offer(10, 0)", x.offer(10, 0), Due.BAD);
     }
 }

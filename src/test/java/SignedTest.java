@@ -145,6 +145,12 @@ public final class SignedTest {
         Due.is("8: clash(4)", x.clash(4), Due.NONE);
         Due.is("10: move(3, 1)", x.move(3, 1), 0);
         Due.is("8: clash(3), as it is MOVED", x.clash(3), Due.NONE);
+        // the one that is SIGNED may be MOVED, and so miss or MEET what it did not as it was told
+        ShowRights z = Due.laid("o1,1,1,0,4,1,1;o1,1,1,2,3,0,1;o1,1,1,13,20,0,1;", 3);
+        Due.is("10: move(0, 9)", z.move(0, 9), 0);
+        Due.is("6: sign(0)", z.sign(0), 1);
+        Due.is("8: clash(1)", z.clash(1), Due.NONE);
+        Due.is("8: clash(2)", z.clash(2), 0);
         // WEEKS that are not of the TERM count, too
         ShowRights y = Due.laid("t0,9;o1,1,1,5,9,1,1;o1,1,1,9,30,0,1;o1,1,1,10,30,0,1;", 3);
         Due.is("6: sign(0)", y.sign(0), 1);

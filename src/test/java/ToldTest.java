@@ -97,6 +97,7 @@ public final class ToldTest {
         fault("t001,2;", 0);
         fault("t1,002;", 0);
         fault("t1,;", 0);
+        fault("t0,;", 0);
         fault("t,1;", 0);
         fault("t,;", 0);
         fault("t1;", 0);
