@@ -371,6 +371,13 @@ public final class SaleEdgesTest {
         Due.is("points(1)", x.points(1), 3);
         ShowRights y = Due.signed("o63,15,15,0,51,0,1;o63,15,15,0,51,0,1;o63,15,15,0,51,0,1;", 3, 0, 1, 2);
         pointsAre(y, "all of them thrice", 4992, 4992, 4992, 0, 0);
+        // what two have stays TWICE, whatever others of the same LAND, TONGUE and MEANS are SIGNED behind them
+        ShowRights z = Due.signed("o1,1,1,0,5,0,1;o1,1,1,3,8,0,1;o1,1,1,20,25,0,1;o1,1,1,25,30,0,1;o1,1,1,40,40,1,1;", 5, 0, 1);
+        int[] more = {3, 4, 4};
+        for (int i = 2; i < 5; i++) {
+            Due.is("sign(" + i + ")", z.sign(i), i + 1);
+            Due.is("points(2), apart from the first two", z.points(2), more[i - 2]);
+        }
     }
 
     private static void alone() {
@@ -387,6 +394,12 @@ public final class SaleEdgesTest {
         x.sign(2);
         pointsAre(x, "0, 1 and 2", 4992, 6, 0, 4, 4986);
         pointsAre(Due.signed("o63,15,15,0,51,1,1;", 1, 0), "all", 4992, 4992, 0, 4992, 0);
+        // two that are ALONE, apart from each other in one LAND, TONGUE and MEANS, with one beside them
+        ShowRights y = Due.signed("o1,1,1,10,14,1,1;o1,1,1,0,3,1,1;o1,1,1,20,20,0,1;", 3, 0, 1, 2);
+        pointsAre(y, "two of one MEANS", 4992, 10, 0, 9, 4982);
+        Due.is("point(.., 1) of the first", y.point(0, 0, 0, 10, 1), 1);
+        Due.is("point(.., 1) of the second", y.point(0, 0, 0, 3, 1), 1);
+        Due.is("point(.., 1) of the third", y.point(0, 0, 0, 20, 1), 0);
     }
 
     private static void left() {

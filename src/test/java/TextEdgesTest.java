@@ -171,9 +171,12 @@ public final class TextEdgesTest {
         Due.fault("t1,2:", 0);
         Due.fault("t1,2;t", 5);
         Due.fault("t1,2;h0,1,9;o1,1,1,0,0,0,1;", Due.NONE);
-        for (int letter = 32; letter <= 126; letter++) {
-            boolean kind = letter == 't';
-            Due.fault((char) letter + "1,2;", kind ? Due.NONE : 0);
+        // no other letter stands for t, o or h, whichever numbers come behind it
+        for (int kind = 0; kind < KINDS.length; kind++) {
+            for (char letter = 32; letter <= 126; letter++) {
+                boolean same = letter == KINDS[kind].charAt(0);
+                Due.fault(item(String.valueOf(letter), NUMBERS[kind]), same ? Due.NONE : 0);
+            }
         }
     }
 
